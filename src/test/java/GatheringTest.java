@@ -12,6 +12,8 @@ public final class GatheringTest {
         promise12CrashBeforeFirstMark();
         promise12CrashJustBehindMark();
         promise12EveryIsCountedAgain();
+        promise12DepthsAfterCrash();
+        promise12FetchedBeforeMark();
         promise14Found();
         promise14FetchesNothing();
         promise15Politeness();
@@ -225,6 +227,27 @@ public final class GatheringTest {
         CHECKS.due("12: one behind the next mark", x.crash(), 1);
         CHECKS.due("12: corpusAt(5)", x.corpusAt(5), 5);
         CHECKS.due("12: corpusAt(6)", x.corpusAt(6), -1);
+    }
+
+    private static void promise12DepthsAfterCrash() {
+        PoliteGatherer x = chainOf(5);
+        x.begin(2, 0, 0, 8);
+        x.work(1);
+        CHECKS.due("12: crash() with an entry of depth 1 queued", x.crash(), 1);
+        CHECKS.due("12: the limit is as far as before", x.work(10), 3);
+        CHECKS.due("12: corpusAt(2)", x.corpusAt(2), 2);
+        CHECKS.due("12: corpusAt(3)", x.corpusAt(3), -1);
+    }
+
+    private static void promise12FetchedBeforeMark() {
+        PoliteGatherer x = chainOf(3);
+        x.move(1, 0);
+        x.first(1);
+        x.begin(0, 1, 0, 1);
+        x.work(1);
+        x.crash();
+        CHECKS.due("12: what was fetched at the mark stays fetched", x.work(1), 1);
+        CHECKS.due("12: fetches()", x.fetches(), 2);
     }
 
     private static void promise14Found() {

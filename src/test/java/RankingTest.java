@@ -11,6 +11,7 @@ public final class RankingTest {
         promise20OnlyDocumentsPassOn();
         promise20Hops();
         promise20ChangesWithCorpus();
+        questionsFetchNothing();
         promise21Places();
         promise21EqualScores();
         promise21Rank();
@@ -182,6 +183,20 @@ public final class RankingTest {
         CHECKS.due("20: gathered again", x.rank(1, 1), 1000000);
     }
 
+    private static void questionsFetchNothing() {
+        PoliteGatherer x = pages(2);
+        write(x, 0, 1);
+        x.link(0, 1);
+        x.first(0);
+        x.begin(1, 0, 5, 8);
+        x.work(1);
+        CHECKS.due("20: rank(0, 12)", x.rank(0, 12), 150000);
+        CHECKS.due("21: best(1, 1, 0)", x.best(1, 1, 0), 0);
+        CHECKS.due("20 and 21: fetches()", x.fetches(), 1);
+        CHECKS.due("20 and 21: clock()", x.clock(), 1);
+        CHECKS.due("20 and 21: work(1)", x.work(1), 1);
+    }
+
     private static void promise21Places() {
         PoliteGatherer x = pages(5);
         write(x, 0, 3, 3, 4);
@@ -236,33 +251,30 @@ public final class RankingTest {
         CHECKS.due("21: more places", x.best(6, 6, 1), 0);
     }
 
-    /** Two pages whose links lead to one another swap their order with each round. */
+    /** The ranks of pages 0 and 1 swing from round to round, so that only 8 rounds answer this. */
     private static void promise21EightRounds() {
-        PoliteGatherer x = pages(5);
-        for (int p = 0; p < 5; p++) {
-            write(x, p, 1, 10 + p);
-        }
+        PoliteGatherer x = pages(4);
+        write(x, 0, 1, 1, 1, 1, 1, 2);
+        write(x, 1, 1, 1, 1, 1, 2);
+        write(x, 2, 10);
+        write(x, 3, 11);
         x.link(0, 1);
         x.link(1, 0);
         x.link(2, 0);
         x.link(3, 0);
-        x.link(4, 1);
-        x.link(1, 1);
-        gather(x, 0, 1, 2, 3, 4);
-        for (int k = 0; k + 1 < 5; k++) {
-            long greater = x.rank(x.best(1, 1, k), 8);
-            long lesser = x.rank(x.best(1, 1, k + 1), 8);
-            CHECKS.due("21: place " + k + " before the next", greater >= lesser, true);
-        }
-        PoliteGatherer y = pages(2);
-        write(y, 0, 1, 1);
-        write(y, 1, 1);
-        y.link(0, 1);
-        y.link(1, 1);
-        gather(y, 0, 1);
-        // Page 1 nears 1000000 from above, page 0 has 2 * 150000 from the first round on.
-        CHECKS.due("21: best(1, 1, 0)", y.best(1, 1, 0), 1);
-        CHECKS.due("21: best(1, 1, 1)", y.best(1, 1, 1), 0);
+        gather(x, 0, 1, 2, 3);
+        CHECKS.due("20: rank(0, 6)", x.rank(0, 6), 1572348);
+        CHECKS.due("20: rank(1, 6)", x.rank(1, 6), 2127649);
+        CHECKS.due("20: rank(0, 8)", x.rank(0, 8), 1668520);
+        CHECKS.due("20: rank(1, 8)", x.rank(1, 8), 2031475);
+        CHECKS.due("20: rank(0, 12)", x.rank(0, 12), 1788208);
+        CHECKS.due("20: rank(1, 12)", x.rank(1, 12), 1911787);
+        // 5 * 1668520 is above 4 * 2031475; by 2, 4 or 6 rounds page 1 would come first.
+        CHECKS.due("21: best(1, 1, 0)", x.best(1, 1, 0), 0);
+        CHECKS.due("21: best(1, 1, 1)", x.best(1, 1, 1), 1);
+        // 6 * 1668520 is below 5 * 2031475; by 10 or 12 rounds, or an odd number, page 0 would come first.
+        CHECKS.due("21: best(1, 2, 0)", x.best(1, 2, 0), 1);
+        CHECKS.due("21: best(1, 2, 1)", x.best(1, 2, 1), 0);
     }
 
     private static void promise21Edges() {
