@@ -109,6 +109,7 @@ public final class CrashBoundariesTest {
         }
     }
 
+    // "whenever EVERY entries were handled since the mark before it", for each EVERY 1 .. 8
     private static void markEveryOther() {
         for (int every = 1; every <= 8; every++) {
             for (int n = 1; n <= 10; n++) {
@@ -125,6 +126,7 @@ public final class CrashBoundariesTest {
         }
     }
 
+    // "whenever EVERY entries were handled", also several times within one call of work
     private static void severalMarksInOneCall() {
         Run x = tenPages("12: marks within a call");
         x.begin(1, 0, 0, 3).is(true);
@@ -174,6 +176,7 @@ public final class CrashBoundariesTest {
         x.fetches().is(3);
     }
 
+    // "whenever EVERY entries were handled", the queue being empty behind them
     private static void markAtTheLastEntry() {
         Run x = chain("12: a mark at the last entry", 4);
         x.begin(6, 0, 0, 4).is(true);
@@ -246,6 +249,7 @@ public final class CrashBoundariesTest {
         x.clock().is(6);
     }
 
+    // "back to what they were at the latest mark": what was fetched then stays so
     private static void crashKeepsWhatWasFetchedAtTheMark() {
         Run x = Webs.pages(CHECKS, "12: fetched at the mark", 3);
         x.move(0, 2).is(true);
@@ -286,6 +290,7 @@ public final class CrashBoundariesTest {
         x.corpusAt(3).is(NONE);
     }
 
+    // A crash brings back nothing else: "A GATHERING has a LIMIT of depth, a number of hops"
     private static void crashKeepsLimitAndHops() {
         Run x = chain("12: limit and hops stay", 5);
         x.move(1, 2).is(true);
@@ -372,6 +377,7 @@ public final class CrashBoundariesTest {
         x.clock().is(39);
     }
 
+    // "becomes NOW + delay", the delay being 0
     private static void crashWithDelayZero() {
         Run x = Webs.hosts(CHECKS, "12: a delay of 0", 2);
         x.begin(0, 0, 0, 8).is(true);
@@ -383,6 +389,7 @@ public final class CrashBoundariesTest {
         x.clock().is(3);
     }
 
+    // "becomes NOW + delay", NOW being 0
     private static void crashBeforeAnyFetch() {
         Run x = Webs.hosts(CHECKS, "12: before any fetch", 2);
         x.begin(0, 0, 9, 8).is(true);
@@ -417,6 +424,7 @@ public final class CrashBoundariesTest {
         x.corpusAt(6).is(NONE);
     }
 
+    // "at the latest mark", which a crash does not take away
     private static void crashAfterCrash() {
         Run x = chain("12: a crash after a crash", 3);
         x.begin(6, 0, 2, 2).is(true);
@@ -433,6 +441,7 @@ public final class CrashBoundariesTest {
         x.corpusAt(1).is(1);
     }
 
+    // "Answers how many entries were handled since the latest mark", the queue being empty
     private static void crashOnAnEmptyQueue() {
         Run x = chain("12: on an empty queue", 3);
         x.begin(6, 0, 0, 2).is(true);

@@ -125,6 +125,7 @@ public final class GatheringBoundariesTest {
         }
     }
 
+    // "limit is not 0 .. 6, hops not 0 .. 4, delay not 0 .. 9, or every not 1 .. 8", all at once
     private static void beginWithSeveralOutOfRange() {
         Run x = chain("9: several are out of range", 1);
         x.begin(-1, -1, -1, 0).is(false);
@@ -407,6 +408,7 @@ public final class GatheringBoundariesTest {
         x.clock().is(11);
     }
 
+    // "Handles n entries", the greatest n
     private static void workTen() {
         Run x = Webs.pages(CHECKS, "11: ten of twelve", 12);
         x.first(0).is(true);
@@ -440,6 +442,7 @@ public final class GatheringBoundariesTest {
         }
     }
 
+    // "if the depth of the entry is less than the limit", the limit being 0
     private static void limitZero() {
         Run x = Webs.pages(CHECKS, "11: with limit 0 no link is followed", 4);
         x.link(0, 2).is(true);
@@ -518,6 +521,7 @@ public final class GatheringBoundariesTest {
         x.waiting().is(1);
     }
 
+    // "Every page that is looked at and allowed", what is gone too
     private static void goneIsFetched() {
         Run x = chain("11: gone", 2);
         x.drop(0).is(true);
@@ -566,6 +570,7 @@ public final class GatheringBoundariesTest {
         }
     }
 
+    // "Every page that is looked at", up to the last hop
     private static void hopsFetched() {
         Run x = Webs.pages(CHECKS, "14: what is looked at within the hops is fetched", 7);
         for (int p = 0; p < 6; p++) {
@@ -581,6 +586,7 @@ public final class GatheringBoundariesTest {
         }
     }
 
+    // "when so many hops were made already", on a way without an end
     private static void movedInACircle() {
         Run x = Webs.pages(CHECKS, "14: moved in a circle", 3);
         x.move(0, 1).is(true);
@@ -812,6 +818,7 @@ public final class GatheringBoundariesTest {
         return x;
     }
 
+    // "How many entries the queue has", all 32 pages being queued
     private static void waitingFull() {
         Run x = fullWeb("17: as many as can wait");
         x.begin(1, 0, 0, 8).is(true);
@@ -858,6 +865,7 @@ public final class GatheringBoundariesTest {
         }
     }
 
+    // "when there is no such place", the corpus being empty
     private static void corpusEmpty() {
         Run x = chain("18: the corpus is empty", 1);
         x.drop(0).is(true);
@@ -873,6 +881,7 @@ public final class GatheringBoundariesTest {
         x.fetches().is(1);
     }
 
+    // "when there is no such place", all 32 pages being in the corpus
     private static void corpusFull() {
         Run x = fullWeb("18: all pages are in the corpus");
         x.begin(1, 0, 0, 8).is(true);

@@ -38,6 +38,7 @@ public final class RankingBoundariesTest {
         bestScoreAboveZero();
         bestOfTheSameWord();
         bestAPlaceCountsOnce();
+        bestAfterEightRounds();
         bestOfWordsThatAreNone();
         bestOfFullBodies();
         bestGreaterScoreFirst();
@@ -116,6 +117,7 @@ public final class RankingBoundariesTest {
         x.document(2).is(0);
     }
 
+    // "with the same body", bodies of 8 words
     private static void documentOfFullBodies() {
         Run x = pages("19: bodies of eight words", 6);
         write(x, 0, 25, 24, 0, 1, 2, 3, 4, 5);
@@ -147,6 +149,7 @@ public final class RankingBoundariesTest {
         x.document(3).is(1);
     }
 
+    // "(the same words in the same order)", where one body begins as the other
     private static void documentOfALongerBody() {
         Run x = pages("19: one begins as the other", 4);
         write(x, 0, 0, 0);
@@ -168,6 +171,7 @@ public final class RankingBoundariesTest {
         x.document(0).is(NONE);
     }
 
+    // "NONE when p is not in the corpus", a crash having undone it
     private static void documentAfterCrash() {
         Run x = pages("19: after a crash", 2);
         x.first(1).is(true);
@@ -381,6 +385,7 @@ public final class RankingBoundariesTest {
         }
     }
 
+    // "A link LEADS to a document d when chasing .. finds a page": not if nothing is found
     private static void rankOfBarredAndGone() {
         Run x = pages("20: barred and gone", 5);
         write(x, 0, 1);
@@ -477,6 +482,7 @@ public final class RankingBoundariesTest {
         x.best(7, 7, 0).is(NONE);
     }
 
+    // "NONE when there is no such place", the corpus being empty
     private static void bestOfAnEmptyCorpus() {
         Run x = pages("21: the corpus is empty", 1);
         write(x, 0, 7);
@@ -515,24 +521,47 @@ public final class RankingBoundariesTest {
         x.best(6, 6, 1).is(NONE);
     }
 
-    // "(a place counts once)"
+    // "the number of places in its body where one of them stands (a place counts once)"
     private static void bestAPlaceCountsOnce() {
-        Run x = pages("21: a place counts once", 2);
-        write(x, 0, 5, 5, 9);
-        write(x, 1, 5, 6, 6);
-        gather(x, 0, 0, 1);
-        // Were each place counted for v and for w, page 0 would have four for 5 and 5.
-        x.best(5, 6, 0).is(1);
-        x.best(6, 5, 0).is(1);
-        x.best(5, 5, 0).is(0);
-        Run y = pages("21: a place of two words", 2);
-        write(y, 0, 5, 5, 6, 6);
-        write(y, 1, 5, 5, 5);
-        gather(y, 0, 0, 1);
-        y.best(5, 6, 0).is(0);
-        y.best(5, 5, 0).is(1);
-        y.best(6, 6, 0).is(0);
-        y.best(6, 6, 1).is(NONE);
+        Run x = pages("21: a place counts once", 3);
+        write(x, 0, 5, 5, 6, 6);
+        write(x, 1, 5, 5, 5);
+        write(x, 2, 6, 5);
+        gather(x, 0, 0, 1, 2);
+        // Places count, not words: page 2 has both words, but in two places only.
+        int[] both = {0, 1, 2};
+        for (int k = 0; k < 3; k++) {
+            x.best(5, 6, k).is(both[k]);
+            x.best(6, 5, k).is(both[k]);
+        }
+        x.best(5, 5, 0).is(1);
+        x.best(5, 5, 1).is(0);
+        x.best(5, 5, 2).is(2);
+        x.best(6, 6, 0).is(0);
+        x.best(6, 6, 1).is(2);
+        x.best(6, 6, 2).is(NONE);
+    }
+
+    // "by the rank after 8 rounds": the ranks swing, so that 7 or 9 rounds would answer otherwise
+    private static void bestAfterEightRounds() {
+        Run x = pages("21: after 8 rounds", 4);
+        write(x, 0, 1, 1, 2);
+        write(x, 1, 1, 1, 3);
+        write(x, 2, 10);
+        write(x, 3, 11);
+        x.link(0, 1).is(true);
+        x.link(1, 0).is(true);
+        x.link(2, 0).is(true);
+        x.link(3, 0).is(true);
+        gather(x, 0, 0, 1, 2, 3);
+        x.rank(0, 7).is(2213501);
+        x.rank(1, 7).is(1486495);
+        x.rank(0, 8).is(1668520);
+        x.rank(1, 8).is(2031475);
+        x.rank(0, 9).is(2131753);
+        x.rank(1, 9).is(1568242);
+        x.best(1, 1, 0).is(1);
+        x.best(1, 1, 1).is(0);
     }
 
     // a word that is none of 0 .. 25 stands in no body
@@ -552,6 +581,7 @@ public final class RankingBoundariesTest {
         x.best(0, 25, 2).is(NONE);
     }
 
+    // "the number of places in its body where one of them stands", bodies of 8 words
     private static void bestOfFullBodies() {
         Run x = pages("21: full bodies", 3);
         write(x, 0, 3, 3, 3, 3, 3, 3, 3);
@@ -649,6 +679,7 @@ public final class RankingBoundariesTest {
         x.best(4, 4, 2).is(NONE);
     }
 
+    // "the one at place k (from 0)", all 32 pages being documents
     private static void bestOfAllPages() {
         Run x = pages("21: all pages", 32);
         for (int p = 0; p < 32; p++) {

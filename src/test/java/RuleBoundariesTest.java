@@ -219,6 +219,7 @@ public final class RuleBoundariesTest {
         allows("13: 21 begins with 2", 21, false, -2);
     }
 
+    // "begins with the digits of the prefix", these ending with 0
     private static void matchesZeros() {
         for (int prefix = 1; prefix <= 100000; prefix *= 10) {
             allows("13: 100000 begins with it", 100000, false, -prefix);

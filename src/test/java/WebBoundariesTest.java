@@ -125,6 +125,7 @@ public final class WebBoundariesTest {
         x.best(0, 0, 0).is(NONE);
     }
 
+    // A new object is new whatever was done with another.
     private static void newObjectsShareNothing() {
         Run x = webOf("1: one object", 32);
         x.rule(0, 0, false).is(true);
